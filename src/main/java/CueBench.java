@@ -687,7 +687,6 @@ public final class CueBench {
         private final CueRow row;
         private int best;
         private int bestDifference;
-        private int bestSecond;
 
         LineBreaker(CueRow row) {
             this.row = row;
@@ -710,15 +709,13 @@ public final class CueBench {
             return best;
         }
 
+        /** Places are offered in order, so the second line never grows: of several as good, the first is due. */
         private void offer(int place, int first, int second) {
             if (first > LINE_CELLS || second > LINE_CELLS) return;
             int difference = Math.abs(first - second);
-            boolean better = best == NONE || difference < bestDifference
-                || difference == bestDifference && second > bestSecond;
-            if (!better) return;
+            if (best != NONE && difference >= bestDifference) return;
             best = place;
             bestDifference = difference;
-            bestSecond = second;
         }
     }
 

@@ -109,6 +109,7 @@ public final class JoinTest {
         Due.is("split(0, 0)", x.split(0, 0), CueBench.BAD);
         Due.is("one byte", x.split(1, 1), CueBench.BAD);
         Due.is("one byte", x.split(1, 0), CueBench.BAD);
+        Due.is("no byte left, and no cells", with(Due.packed(0, 100, "\u00c0\u00c0")).split(0, 2), CueBench.BAD);
         Due.is("behind the next start", x.split(0, 3), CueBench.BAD);
         Due.is("just at the next start", x.split(0, 2), 3);
         Due.is("just at the next start", Due.cues(x), "0 50 ab/50 100 cd/50 60 e/");

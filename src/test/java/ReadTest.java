@@ -171,6 +171,9 @@ public final class ReadTest {
         fault(1, "{3}{4}a\n{5}{5}b\n{x", 8);
         fault(1, "{3}{4}a\n{5}{6}b\n{x", 17);
         fault(0, "00:00:02,000 > 00:00:02,000\nx\n\n", 0);
+        fault(0, "00:00:02,000 > 00:00:02,000\n\n", 28);
+        fault(1, "{2}{2}\n", 6);
+        fault(2, Due.packed(5, 5, "\n"), 13);
         fault(0, TIMES + "x\n\n00:00:00,999 > 00:00:05,000\nx\n\n", TIMES.length() + 3);
         fault(2, Due.packed(5, 5, "a"), 0);
         fault(2, Due.packed(5, 6, "a") + Due.packed(4, 6, "a"), 14);

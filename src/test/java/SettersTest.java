@@ -36,9 +36,25 @@ public final class SettersTest {
         rate(1002, 1002, false);
         rate(120000, 1000, false);
         rate(49, 1, true);
+        rate(56, 1, true);
+        rate(125, 2, false);
+        rate(63, 1, false);
+        everyRate();
         rate(50, 1, true);
         rate(Integer.MAX_VALUE, 1, false);
         rate(Integer.MIN_VALUE, Integer.MIN_VALUE, false);
+    }
+
+    /** Every den with the nums round both limits of the rate. */
+    private static void everyRate() {
+        for (int den = 1; den <= 1001; den++) {
+            for (int num = Math.max(1, den - 3); num <= den + 3; num++) rate(num, den, whole(num, den) && num >= den);
+            for (int num = 60 * den - 40; num <= 60 * den + 40; num++) rate(num, den, whole(num, den) && num <= 60 * den);
+        }
+    }
+
+    private static boolean whole(int num, int den) {
+        return 705600000L * den % num == 0;
     }
 
     private static void rateIsUsed() {

@@ -4,6 +4,7 @@ public final class WriteTest {
         forms();
         nearestEven();
         limits();
+        digits();
         parts();
         Due.end();
     }
@@ -58,6 +59,7 @@ public final class WriteTest {
         Due.is("the buffer stays", Due.buffer(x), bytes);
         Due.is("packed", x.write(2), bytes.length());
         fullFrames();
+        fullPacked();
     }
 
     /** 15 cues of 64 bytes and more are too many; 13 of 75 and one of 25 are just 1000. */
@@ -73,6 +75,27 @@ public final class WriteTest {
         Due.is("shift", x.shift(7000L * 28224000), true);
         Due.is("more digits", x.write(1), CueBench.FULL);
         Due.is("the buffer stays", x.at(999), 10);
+    }
+
+    private static void fullPacked() {
+        CueBench x = new CueBench();
+        String cue = "{1}{2}" + Due.times("y", 64) + "\n";
+        Due.read(x, 1, Due.times(cue, 12) + cue.replace("yy\n", "y\n"));
+        Due.is("1000 bytes", x.write(2), 1000);
+        Due.read(x, 1, Due.times(cue, 13));
+        Due.is("1001 bytes", x.write(2), CueBench.FULL);
+        Due.is("the buffer stays", Due.buffer(x), Due.times(cue, 13));
+    }
+
+    private static void digits() {
+        CueBench x = new CueBench();
+        x.rate(60, 1);
+        int[] frames = {1, 9, 10, 99, 100, 999, 1000, 9999, 10000, 99999, 100000, 216000};
+        for (int k = 0; k < frames.length; k += 2) {
+            String bytes = "{" + frames[k] + "}{" + frames[k + 1] + "}a\n";
+            Due.is("read", Due.read(x, 1, bytes), 1);
+            written("digits", x, 1, bytes);
+        }
     }
 
     private static void parts() {
