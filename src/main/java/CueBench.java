@@ -447,14 +447,14 @@ public final class CueBench {
 
         private boolean takeBlockTime() {
             time = 0;
-            if (!takeDigit('9') || !takeDigit('9') || !takeSign(':')) return false;
-            if (!takeSixty() || !takeSign(':') || !takeSixty() || !takeSign(',')) return false;
+            if (!takeSixty() || !takeSign(':') || !takeSixty() || !takeSign(':')) return false;
+            if (!takeSixty() || !takeSign(',')) return false;
             if (!takeDigit('9') || !takeDigit('9') || !takeDigit('9')) return false;
             time *= THOUSANDTH;
             return true;
         }
 
-        /** Two digits below 60, as minutes or seconds behind the time so far. */
+        /** Two digits below 60, as hours, minutes or seconds behind the time so far. */
         private boolean takeSixty() {
             long before = time;
             time = 0;

@@ -10,7 +10,7 @@ import java.util.regex.Pattern;
 /** A slow second bench that follows the words of the document, without any of the class's short cuts. */
 final class Model {
     private static final long LAST = 3600L * 705600000L;
-    private static final String TIME = "(\\d\\d):([0-5]\\d):([0-5]\\d),(\\d\\d\\d)";
+    private static final String TIME = "([0-5]\\d):([0-5]\\d):([0-5]\\d),(\\d\\d\\d)";
     private static final Pattern BLOCK = Pattern.compile(TIME + " > " + TIME + "\n(.*)\n\n", Pattern.DOTALL);
     private static final Pattern FRAMES = Pattern.compile("\\{(\\d{1,6})\\}\\{(\\d{1,6})\\}([^\n]*)\n");
 

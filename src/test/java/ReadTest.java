@@ -5,6 +5,7 @@ public final class ReadTest {
     public static void main(String[] args) {
         forms();
         blockTimes();
+        blockHours();
         blockTexts();
         frameTimes();
         frameTexts();
@@ -64,6 +65,31 @@ public final class ReadTest {
         fault(0, "\n", 0);
         fault(0, all + "\n", all.length());
         fault(0, all + all.substring(0, 20), all.length() + 20);
+    }
+
+    /** Hours are below 60 too: 60 and more are no hours at all, 2 to 59 are a time beyond LAST. */
+    private static void blockHours() {
+        String rest = ":00:00,000";
+        for (char digit = '6'; digit <= '9'; digit++) {
+            fault(0, "" + digit, 0);
+            fault(0, digit + "0" + rest + " > 00:00:02,000\nx\n\n", 0);
+            fault(0, digit + "9" + rest + " > " + digit, 0);
+            fault(0, "00" + rest + " > " + digit, 15);
+            fault(0, "00" + rest + " > " + digit + "0" + rest + "\nx\n\n", 15);
+            fault(0, TIMES + "x\n\n" + digit, TIMES.length() + 3);
+            fault(0, TIMES + "x\n\n59" + rest + " > " + digit + "9", TIMES.length() + 18);
+        }
+        for (char digit = '0'; digit <= '5'; digit++) {
+            fault(0, "" + digit, 1);
+            fault(0, digit + "9", 2);
+            fault(0, "00" + rest + " > " + digit + "9", 17);
+            fault(0, "00" + rest + " > " + digit + "9" + rest + "\nx\n", 30);
+            fault(0, "00" + rest + " > " + digit + "9" + rest + "\nx\n\n", 0);
+            fault(0, TIMES + "x\n\n" + digit + "8" + rest + " > " + digit + "9" + rest + "\nx\n\n", TIMES.length() + 3);
+        }
+        fault(0, "0:", 1);
+        fault(0, "0/", 1);
+        good(0, "00" + rest + " > 01" + rest + "\nx\n\n", 1);
     }
 
     private static void blockTexts() {
