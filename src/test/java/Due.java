@@ -2,6 +2,9 @@ import java.nio.charset.StandardCharsets;
 
 /** What all tests use: answers that are due, and bytes put into and taken from a bench. */
 final class Due {
+    /** Numbers with which sums would wrap around. */
+    static final int[] FAR = {Integer.MIN_VALUE, Integer.MIN_VALUE + 1, Integer.MAX_VALUE - 1, Integer.MAX_VALUE};
+
     private static int wrong = 0;
 
     private Due() {
@@ -56,6 +59,38 @@ final class Due {
     static int read(CueBench x, int form, String bytes) {
         fill(x, bytes);
         return x.read(form);
+    }
+
+    /** A new bench that has read these bytes. */
+    static CueBench with(int form, String bytes) {
+        CueBench x = new CueBench();
+        is("whether " + shown(bytes) + " is read in form " + form, read(x, form, bytes) >= 0, true);
+        return x;
+    }
+
+    /** One cue in a form, its times in seconds below 60, which every form holds exactly (at 25 frames a second). */
+    static String cue(int form, int start, int end, String text) {
+        if (form == CueBench.BLOCK) {
+            return String.format("00:00:%02d,000 > 00:00:%02d,000\n", start, end) + text + "\n\n";
+        }
+        if (form == CueBench.FRAMES) {
+            return "{" + 25 * start + "}{" + 25 * end + "}" + text.replace('\n', '|') + "\n";
+        }
+        return packed(start * 705600000L, end * 705600000L, text);
+    }
+
+    /** How many bytes of such a cue are before its text. */
+    static int before(int form, int start, int end) {
+        String bytes = cue(form, start, end, "#");
+        return bytes.indexOf('#');
+    }
+
+    static void taken(int form, String bytes, int cues) {
+        is("read " + form + " of " + shown(bytes), read(new CueBench(), form, bytes), cues);
+    }
+
+    static void fault(int form, String bytes, int place) {
+        is("read " + form + " of " + shown(bytes), read(new CueBench(), form, bytes), -10 - place);
     }
 
     static String buffer(CueBench x) {
